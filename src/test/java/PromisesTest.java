@@ -472,16 +472,40 @@ public final class PromisesTest {
     }
 
     /** All thirty lists, each in the one before it. */
-    private static void deepRun() {
+    private static FormulaLists scriptChain(boolean upper) {
         FormulaLists x = new FormulaLists();
         x.atom(0, 0);
         for (int list = 1; list < 30; list++) {
             x.atom(8, 0);
             x.atom(0, 0);
-            x.script(list - 1, true, list);
+            x.script(list - 1, upper, list);
         }
-        due("thirty lists deep", 30, () -> x.run(0));
-        item(x, 29, 0, 40 + 28 + 27 * 20, 40 + 28 + 27 * 20, 5, 20, 0, 29, 0);
+        return x;
+    }
+
+    private static void deepRun() {
+        FormulaLists up = scriptChain(true);
+        due("thirty lists deep, upper", 30, () -> up.run(0));
+        item(up, 29, 0, 40 + 28 + 27 * 20, 40 + 28 + 27 * 20, 5, 20, 0, 29, 0);
+        FormulaLists down = scriptChain(false);
+        due("thirty lists deep, lower", 30, () -> down.run(0));
+        item(down, 29, 0, 40 + 28 + 27 * 20, -20 - 14 - 27 * 10, 5, 20, 0, 29, 0);
+        FormulaLists fences = new FormulaLists();
+        FormulaLists matrices = new FormulaLists();
+        listOf(fences, 0);
+        listOf(matrices, 0);
+        for (int list = 2; list < 30; list++) {
+            fences.atom(8, 0);
+            fences.fence(1, list - 1, 1);
+            matrices.atom(8, 0);
+            matrices.matrix(1, 1);
+        }
+        due("fences around fences", 57, () -> fences.run(29));
+        box(fences, 40 + 28 * 60, 50, 10);
+        item(fences, 28, 0, 28 * 30, 0, 10, 40, 0, 0, 0);
+        due("matrices in matrices", 1, () -> matrices.run(29));
+        box(matrices, 40, 45, 5);
+        item(matrices, 0, 0, 0, -5, 10, 40, 0, 0, 0);
     }
 
     private static void itemsTold() {
