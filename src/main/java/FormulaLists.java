@@ -156,7 +156,7 @@ public final class FormulaLists {
         if (i == -1 && what >= 0 && what <= 2) {
             return what == 0 ? layout.width : what == 1 ? layout.height : layout.depth;
         }
-        if (i < 0 || i >= layout.items.count || what < 0 || what >= Items.PARTS) {
+        if (!layout.items.has(i) || what < 0 || what >= Items.PARTS) {
             throw new IndexOutOfBoundsException("no such item");
         }
         return layout.items.part(i, what);
@@ -362,7 +362,7 @@ public final class FormulaLists {
 
         void holdCellsFrom(int from, int matrix) {
             for (int list = from; list < lists; list++) {
-                if (mayBeCell(list)) {
+                if (mayBeCell(list) && cellCount < MOST_LISTS) {
                     holder[list] = matrix;
                     cells[cellCount] = list;
                     cellCount++;
@@ -446,12 +446,19 @@ public final class FormulaLists {
         int count = 0;
         private final int[] parts = new int[MOST_ITEMS * PARTS];
 
-        int part(int item, int what) {
-            return parts[item * PARTS + what];
+        boolean has(int item) {
+            return item >= 0 && item < count;
         }
 
-        /** A new item at the place 0, 0; told is its sign or delimiter. */
+        int part(int item, int what) {
+            return has(item) ? parts[item * PARTS + what] : 0;
+        }
+
+        /** A new item at the place 0, 0; told is its sign or delimiter. NONE where the room ends, to which no run comes. */
         int add(int what, int node, int told) {
+            if (count >= MOST_ITEMS) {
+                return NONE;
+            }
             int item = count;
             int at = item * PARTS;
             parts[at] = what;
@@ -465,16 +472,20 @@ public final class FormulaLists {
         }
 
         void measure(int item, int size, int width) {
-            parts[item * PARTS + SIZE] = size;
-            parts[item * PARTS + WIDTH] = width;
+            if (has(item)) {
+                parts[item * PARTS + SIZE] = size;
+                parts[item * PARTS + WIDTH] = width;
+            }
         }
 
         void markShort(int item) {
-            parts[item * PARTS + SHORT] = 1;
+            if (has(item)) {
+                parts[item * PARTS + SHORT] = 1;
+            }
         }
 
         void shift(int from, int to, int right, int up) {
-            for (int item = from; item < to; item++) {
+            for (int item = Math.max(from, 0); item < Math.min(to, count); item++) {
                 parts[item * PARTS + X] += right;
                 parts[item * PARTS + Y] += up;
             }
@@ -784,7 +795,8 @@ public final class FormulaLists {
         }
 
         private int cellAt(int matrix, int cell) {
-            return book.cells[book.first[matrix] + cell];
+            int at = book.first[matrix] + cell;
+            return at < book.cellCount ? book.cells[at] : 0;
         }
 
         private int columnWidth(int matrix, int column) {
